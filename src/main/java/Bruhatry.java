@@ -435,7 +435,7 @@ public final class Bruhatry {
         if (!other.read(bonds)) {
             throw new IllegalArgumentException();
         }
-        return other.fit(0);
+        return other.fit();
     }
 
     public int mirrors() {
@@ -2045,14 +2045,18 @@ public final class Bruhatry {
             return true;
         }
 
-        /** Whether names from this place on can be found that make the bonds the same. */
-        boolean fit(int place) {
+        /** Whether some names make the bonds the same. */
+        boolean fit() {
+            return fitFrom(0);
+        }
+
+        private boolean fitFrom(int place) {
             if (place >= bonds.size || place >= WIDTH) {
                 return true;
             }
             for (int name = 0; name < bonds.size; name++) {
                 names[place] = name;
-                if (agrees(place) && fit(place + 1)) {
+                if (agrees(place) && fitFrom(place + 1)) {
                     return true;
                 }
             }

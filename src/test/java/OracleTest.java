@@ -23,6 +23,9 @@ public final class OracleTest {
         for (int i = 0; i < 300; i++) {
             names(someBonds(1 + LOT.nextInt(5), 2), someBonds(5, 2));
         }
+        for (int i = 0; i < 300; i++) {
+            longWords(someBonds(2 + LOT.nextInt(4), 1 + LOT.nextInt(3)));
+        }
         exchanges();
         Check.end("OracleTest");
     }
@@ -237,6 +240,105 @@ public final class OracleTest {
             }
             same("swallow", x, x.swallow(), o, w);
         }
+    }
+
+    /** A word of many letters: by lot, or growing with each letter, or such a one with some letters taken out. */
+    private static List<Integer> someWord(Oracle o, int most, int kind) {
+        List<Integer> word = new ArrayList<>();
+        Oracle.El w = o.one;
+        while (word.size() < most) {
+            int s = LOT.nextInt(o.n);
+            if (kind == 0 || !o.isRight(w, s) || o.length(w) == o.length(o.times(w, o.mirror[s])) + 1 && LOT.nextInt(30) == 0) {
+                word.add(s);
+                w = o.times(w, o.mirror[s]);
+            } else if (LOT.nextInt(8) == 0) {
+                break;
+            }
+        }
+        if (kind == 2 && !word.isEmpty()) {
+            word.remove(LOT.nextInt(word.size()));
+        }
+        return word;
+    }
+
+    private static void longWords(int[][] bonds) {
+        Bruhatry x = shop(bonds);
+        Oracle o = new Oracle(bonds);
+        List<Oracle.El> all = new ArrayList<>();
+        for (int i = 0; i < 5; i++) {
+            List<Integer> word = someWord(o, i < 3 ? 24 + LOT.nextInt(7) : LOT.nextInt(16), LOT.nextInt(3));
+            Oracle.El w = o.of(word);
+            x.erase();
+            for (int s : word) {
+                x.type(s);
+            }
+            if (o.length(w) > 24) {
+                Check.thrown("too long", x, UnsupportedOperationException.class, x::element);
+                continue;
+            }
+            int at = x.element();
+            all.add(w);
+            Check.due("long form", Check.form(x, at), o.firstWord(w).toString());
+            int back = x.reverse(at);
+            all.add(o.back(w));
+            Check.due("long reverse", Check.form(x, back), o.firstWord(o.back(w)).toString());
+        }
+        int size = all.size();
+        for (int i = 0; i < size; i++) {
+            for (int j = 0; j < size; j++) {
+                longPair(x, o, i, j, all);
+            }
+        }
+        Check.due("isSound", x.isSound(), true);
+    }
+
+    /** Whether the product of two is refused: the letters of the form of the second one lead above 30. */
+    private static boolean isRefused(Oracle o, Oracle.El a, Oracle.El b) {
+        Oracle.El now = a;
+        for (int s : o.firstWord(b)) {
+            now = o.times(now, o.mirror[s]);
+            if (o.length(now) > 30) {
+                return true;
+            }
+        }
+        return false;
+    }
+
+    private static void longPair(Bruhatry x, Oracle o, int i, int j, List<Oracle.El> all) {
+        Oracle.El a = all.get(i);
+        Oracle.El b = all.get(j);
+        if (isRefused(o, o.back(a), b)) {
+            Check.thrown("walls refused", x, UnsupportedOperationException.class, () -> x.walls(i, j));
+        } else {
+            int walls = o.length(o.times(o.back(a), b));
+            Check.due("long walls", x.walls(i, j), walls);
+            Check.due("long right", x.isBelow(i, j, 'r'), walls == o.length(b) - o.length(a));
+        }
+        boolean isRefused = isRefused(o, a, b);
+        if (isRefused || o.length(o.times(a, b)) > 24) {
+            Check.thrown("product refused", x, UnsupportedOperationException.class, () -> x.product(i, j));
+        } else if (x.elements() < 24) {
+            Check.due("long product", Check.form(x, x.product(i, j)), o.firstWord(o.times(a, b)).toString());
+            all.add(o.times(a, b));
+        }
+        if (o.length(b) <= 24) {
+            boolean isStrong = x.isBelow(i, j, 's');
+            Check.due("long strong", isStrong, isStrong(o, a, b));
+        }
+    }
+
+    /** By descents of the upper one, from behind. */
+    private static boolean isStrong(Oracle o, Oracle.El low, Oracle.El high) {
+        Oracle.El a = low;
+        Oracle.El b = high;
+        for (int s = 0; s < o.n; s++) {
+            if (o.isRight(b, s)) {
+                a = o.isRight(a, s) ? o.times(a, o.mirror[s]) : a;
+                b = o.times(b, o.mirror[s]);
+                s = -1;
+            }
+        }
+        return o.isSame(a, o.one);
     }
 
     private static void groups(int[][] bonds) {

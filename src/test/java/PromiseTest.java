@@ -532,6 +532,34 @@ public final class PromiseTest {
         Check.due("26 length 8", y.p(Check.add(y), eight, 0), 1);
         Check.due("27 length 8, first one longer", y.mu(nine, eight), 0);
         Check.due("27 length 8", y.mu(Check.add(y, 0, 1, 0, 1, 0), eight), 0);
+        laterP();
+    }
+
+    /** Other calls between, and other bonds, are not in the way of P. */
+    private static void laterP() {
+        Bruhatry x = Check.line(3, 3);
+        int mid = Check.add(x, 1);
+        int y = Check.add(x, 1, 0, 2, 1);
+        long[] others = new long[6];
+        for (int i = 0; i < 6; i++) {
+            Check.due("26 p again", x.p(mid, y, 1), 1);
+            others[i] = i == 0 ? x.words(y) : i == 1 ? x.between(mid, y, 'r') : i == 2 ? x.between(mid, y, 's')
+                    : i == 3 ? x.r(mid, y, 0) : i == 4 ? x.algebra(y, mid, y, 1) : x.growth(6);
+        }
+        Check.due("20 between", others[0], 2);
+        Check.due("23 between", others[1], 5);
+        Check.due("23 between", others[2], 10);
+        Check.due("25 between", others[3], -1);
+        Check.due("28 between", others[4], 1);
+        x.bond(0, 1, 2);
+        int a = Check.add(x, 1);
+        int b = Check.add(x, 1, 2, 1);
+        Check.due("26 p", x.p(a, b, 0), 1);
+        x.bond(1, 2, 4);
+        a = Check.add(x, 2);
+        b = Check.add(x, 1, 2, 1);
+        Check.due("26 after another bond", x.p(a, b, 0), 1);
+        Check.due("26 after another bond", x.p(Check.add(x, 2, 1, 2), b, 0), 0);
     }
 
     private static void promise28algebra() {
@@ -639,6 +667,9 @@ public final class PromiseTest {
         y.bond(1, 2, 2);
         Check.due("34 after another bond", y.chainParts(), 1);
         Check.due("33 after another bond", y.chains(), 9);
+        y.begin(1);
+        Check.due("34 with one mirror then", y.chainParts(), 1);
+        Check.due("33 with one mirror then", y.chains(), 1);
     }
 
     private static void promise35and36() {
