@@ -27,6 +27,10 @@ public final class OracleTest {
             longWords(someBonds(2 + LOT.nextInt(4), 1 + LOT.nextInt(3)));
         }
         exchanges();
+        greatestPowers(line(6, 0), 6, 1, 0, 2, 0, 1, 2, 0, 1);
+        greatestPowers(line(4, 4), 6, 1, 0, 2, 1, 0, 2, 0, 1);
+        greatestPowers(line(0, 2), 4, 0, 1, 0, 2, 1, 0, 1, 0);
+        greatestPowers(line(6, 4), 2, 1, 0, 1, 2, 0, 1, 0, 1);
         Check.end("OracleTest");
     }
 
@@ -389,6 +393,30 @@ public final class OracleTest {
         Map<Integer, Integer> growth = o.growth(5);
         for (int k = 0; k <= 5; k++) {
             Check.due("growth", x.growth(k), growth.getOrDefault(k, 0));
+        }
+    }
+
+    /** Words of length 8 with P of the power 3, the greatest one that there is. */
+    private static void greatestPowers(int[][] bonds, int bondOfEnds, int... word) {
+        bonds[0][2] = bondOfEnds;
+        bonds[2][0] = bondOfEnds;
+        Bruhatry x = shop(bonds);
+        Oracle o = new Oracle(bonds);
+        List<Oracle.El> all = new ArrayList<>();
+        for (int size : new int[] {8, 0, 1, 3}) {
+            List<Integer> letters = new ArrayList<>();
+            for (int i = 0; i < size; i++) {
+                letters.add(word[size == 8 ? i : 7 - i]);
+            }
+            all.add(o.of(letters));
+            put(x, o, o.of(letters));
+        }
+        Check.due("length 8", x.length(0), 8);
+        Check.due("power 3", x.p(1, 0, 3) > 0 || x.mu(2, 0) > 0, true);
+        for (int i = 0; i < all.size(); i++) {
+            for (int j = 0; j < all.size(); j++) {
+                two(x, o, i, j, all);
+            }
         }
     }
 
