@@ -1697,7 +1697,10 @@ public final class Bruhatry {
             return count;
         }
 
-        /** Fills the table with all that the element of the row begins with, it itself first, 1 last. */
+        /**
+         * Fills the table with all that the element of the row begins with, it itself first, 1 last. It has room for
+         * them: up to length 10 there are 1024 at most, as each mirror doubles them at most, and of length 12 just 288.
+         */
         int countBeginnings(long[] row, int rowLength) {
             hasTop = false;
             table.restart(row, rowLength);
